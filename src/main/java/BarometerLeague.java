@@ -89,12 +89,11 @@ public final class BarometerLeague {
     }
 
     public int weigh(int village, int sign, int weight) throws IndexOutOfBoundsException, IllegalArgumentException {
-        requireVillage(village);
+        Village weighing = villages.get(village);
         requireSign(sign);
         if (weight < 0 || weight > HIGHEST_WEIGHT) {
             throw new IllegalArgumentException("a weight is 0 to 100");
         }
-        Village weighing = villages.get(village);
         int before = weighing.weightOf(sign);
         weighing.putWeight(sign, weight);
         return before;
@@ -102,12 +101,13 @@ public final class BarometerLeague {
 
     public int share(int village, int from)
             throws IndexOutOfBoundsException, IllegalArgumentException, IllegalStateException {
-        requireTwoVillages(village, from);
         Village buyer = villages.get(village);
+        Village seller = villages.get(from);
+        requireTwo(village, from);
         if (buyer.coins < PRICE_OF_SHARING) {
             throw new IllegalStateException("the village has fewer than 5 coins");
         }
-        buyer.buyWeightsOf(villages.get(from));
+        buyer.buyWeightsOf(seller);
         return buyer.coins;
     }
 
@@ -138,15 +138,14 @@ public final class BarometerLeague {
     }
 
     public int weight(int village, int sign) throws IndexOutOfBoundsException {
-        requireVillage(village);
+        Village asked = villages.get(village);
         requireSign(sign);
-        return villages.get(village).weightOf(sign);
+        return asked.weightOf(sign);
     }
 
     public int about(int village, int what) throws IndexOutOfBoundsException {
-        requireVillage(village);
-        requireWhat(what, 0, 6);
         Village asked = villages.get(village);
+        requireWhat(what, 0, 6);
         switch (what) {
             case 0:
                 return asked.points;
@@ -211,10 +210,12 @@ public final class BarometerLeague {
     }
 
     public int overtakes(int a, int b) throws IndexOutOfBoundsException, IllegalArgumentException {
-        requireTwoVillages(a, b);
+        Village first = villages.get(a);
+        Village second = villages.get(b);
+        requireTwo(a, b);
         trials.clear();
-        trials.addCopy(villages.get(a));
-        trials.addCopy(villages.get(b));
+        trials.addCopy(first);
+        trials.addCopy(second);
         for (int behind = 0; behind <= MOST_DAYS_AWAITED; behind++) {
             if (trials.get(0).isAheadOf(trials.get(1))) {
                 return behind;
@@ -225,11 +226,11 @@ public final class BarometerLeague {
     }
 
     public int advise(int village, int days) throws IndexOutOfBoundsException, IllegalArgumentException {
-        requireVillage(village);
+        Village asking = villages.get(village);
         requireDays(days, MOST_DAYS_ADVISED);
         trials.clear();
         for (int t = 0; t <= signs.size(); t++) {
-            trials.addCopy(villages.get(village));
+            trials.addCopy(asking);
         }
         // The trial 0 stays as it is, the trial t goes without the sign t - 1.
         for (int t = 1; t < trials.size(); t++) {
@@ -342,15 +343,7 @@ public final class BarometerLeague {
         }
     }
 
-    private void requireVillage(int village) {
-        if (!villages.has(village)) {
-            throw new IndexOutOfBoundsException("there is no such village");
-        }
-    }
-
-    private void requireTwoVillages(int village, int other) {
-        requireVillage(village);
-        requireVillage(other);
+    private static void requireTwo(int village, int other) {
         if (village == other) {
             throw new IllegalArgumentException("both villages are the same");
         }
@@ -515,6 +508,7 @@ public final class BarometerLeague {
             return hit;
         }
 
+        /** A quarter is rounded up, so that every weight but 0 gets less. */
         private void learn(int[] sayings, int truth) {
             for (int s = 0; s < weights.length && s < sayings.length; s++) {
                 if (sayings[s] == truth) {
@@ -564,12 +558,11 @@ public final class BarometerLeague {
             return size >= places.length;
         }
 
-        boolean has(int v) {
-            return v >= 0 && v < size;
-        }
-
-        /** Only for those that the row has. */
+        /** Refuses a number without a village as every call that takes a village has to. */
         Village get(int v) {
+            if (v < 0 || v >= size) {
+                throw new IndexOutOfBoundsException("there is no such village");
+            }
             return places[v];
         }
 
