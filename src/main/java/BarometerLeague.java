@@ -544,7 +544,7 @@ public final class BarometerLeague {
         private int size;
 
         VillageRow(int capacity) {
-            places = new Village[capacity];
+            places = new Village[Math.max(capacity, 0)];
             for (int v = 0; v < places.length; v++) {
                 places[v] = new Village(v);
             }

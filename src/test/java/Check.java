@@ -6,17 +6,23 @@ final class Check {
     private static final Class<?> ARGUMENT = IllegalArgumentException.class;
     private static final Class<?> STATE = IllegalStateException.class;
 
+    private static String sentence = "";
     private static int checked = 0;
     private static int wrong = 0;
 
     private Check() {
     }
 
+    /** The words of the document that the answers from here on are about; they are printed with a wrong one. */
+    static void sentence(String words) {
+        sentence = "'" + words + "': ";
+    }
+
     static void equal(String what, Object got, Object due) {
         checked++;
         if (!got.equals(due)) {
             wrong++;
-            System.out.println(what + " answered " + got + ", due is " + due);
+            System.out.println(sentence + what + " answered " + got + ", due is " + due);
         }
     }
 

@@ -68,8 +68,8 @@ public final class DaysTest {
     }
 
     private static void promise14DaysOneByOne() {
-        BarometerLeague x = lateOvertaking();
-        BarometerLeague y = lateOvertaking();
+        BarometerLeague x = Leagues.lateOvertaking();
+        BarometerLeague y = Leagues.lateOvertaking();
         int hits = 0;
         for (int day = 0; day < 90; day++) {
             hits += y.pass(1);
@@ -80,7 +80,7 @@ public final class DaysTest {
 
     private static void promise15Foresee() {
         for (int days = 1; days <= 90; days++) {
-            BarometerLeague x = lateOvertaking();
+            BarometerLeague x = Leagues.lateOvertaking();
             x.pass(5);
             long before = x.digest();
             int points = x.foresee(days, 3);
@@ -92,7 +92,7 @@ public final class DaysTest {
             Check.equal("coins behind " + days, coins, x.count(4));
             Check.equal("guessing behind " + days, guessing, x.count(5));
         }
-        BarometerLeague x = lateOvertaking();
+        BarometerLeague x = Leagues.lateOvertaking();
         Check.badArgument(x, "foresee(0, 3)", () -> x.foresee(0, 3));
         Check.badArgument(x, "foresee(91, 3)", () -> x.foresee(91, 3));
         Check.badIndex(x, "foresee(1, 2)", () -> x.foresee(1, 2));
@@ -112,25 +112,8 @@ public final class DaysTest {
         Check.equal("coins then", x.foresee(5, 4), 50);
     }
 
-    /** Two villages; 1 comes to stand better than 0 behind 123 days, and not before. */
-    private static BarometerLeague lateOvertaking() {
-        BarometerLeague x = new BarometerLeague();
-        x.join();
-        x.join();
-        x.sign(3, 6);
-        x.sign(1, 3);
-        x.setRain(1, true);
-        x.setRain(3, true);
-        x.setGlass(5, 32);
-        x.setGlass(4, 27);
-        x.setGlass(2, 1);
-        x.weigh(1, 1, 6);
-        x.weigh(0, 0, 74);
-        return x;
-    }
-
     private static void promise16Overtakes() {
-        BarometerLeague x = lateOvertaking();
+        BarometerLeague x = Leagues.lateOvertaking();
         Check.equal("the better one now", x.overtakes(0, 1), 0);
         Check.equal("behind 123 days", x.overtakes(1, 0), -1);
         x.pass(2);
@@ -286,12 +269,12 @@ public final class DaysTest {
         int[] still = {30, 30, 30, 30, 30, 30, 30, 30, 30, 30, 30, 30};
         BarometerLeague x = new BarometerLeague();
         Check.equal("digest() of a new object", x.digest(), digestByCalls(x, still));
-        BarometerLeague y = lateOvertaking();
+        BarometerLeague y = Leagues.lateOvertaking();
         int[] glass = {30, 30, 1, 30, 27, 32, 30, 30, 30, 30, 30, 30};
         Check.equal("digest()", y.digest(), digestByCalls(y, glass));
         y.pass(17);
         Check.equal("digest() later", y.digest(), digestByCalls(y, glass));
-        Check.isTrue("the day changes it", y.digest() != lateOvertaking().digest());
+        Check.isTrue("the day changes it", y.digest() != Leagues.lateOvertaking().digest());
     }
 
     public static void main(String[] args) {
