@@ -42,7 +42,7 @@ final class Check {
         refused(x, call, run, STATE);
     }
 
-    /** A refused call throws exactly this class and changes nothing that the digest tells. */
+    /** A refused call throws exactly this class, by a statement of its own, and changes nothing that the digest tells. */
     private static void refused(BarometerLeague x, String call, Supplier<Object> run, Class<?> due) {
         long before = x.digest();
         Object got;
@@ -50,9 +50,15 @@ final class Check {
             got = run.get();
         } catch (RuntimeException e) {
             got = e.getClass();
+            isTrue(call + " is refused by the program, not by the library", isThrownByTheProgram(e));
         }
         equal(call, got, due);
         equal("digest() behind the refused " + call, x.digest(), before);
+    }
+
+    private static boolean isThrownByTheProgram(RuntimeException e) {
+        StackTraceElement[] calls = e.getStackTrace();
+        return calls.length > 0 && calls[0].getClassName().startsWith("BarometerLeague");
     }
 
     static void finish() {

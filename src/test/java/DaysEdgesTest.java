@@ -193,10 +193,14 @@ public final class DaysEdgesTest {
         Check.sentence("so that it has the most points behind so many days");
         BarometerLeague x = Leagues.of(1, 5, 0, 5, 0, 1, 0);
         x.weigh(0, 0, 21);
-        x.weigh(0, 1, 60);
+        x.weigh(0, 1, 40);
         x.weigh(0, 2, 30);
-        // Without 0 two of three dry days are missed: 60 to 30, 45 to 31, 33 to 32; without 1 none is.
-        Check.equal("the second sign is better than the first", x.advise(0, 3), 1);
+        // As it is three dry days are missed, without 0 just the first (by 40 to 30), without 1 none.
+        Check.equal("points as it is", x.foresee(3, 3), 0);
+        Check.equal("without 1 it has one more than without 0", x.advise(0, 3), 1);
+        x.weigh(0, 0, 40);
+        x.weigh(0, 1, 21);
+        Check.equal("and so it is if both are changed about", x.advise(0, 3), 0);
     }
 
     private static void adviseTheSmallestNumber() {
